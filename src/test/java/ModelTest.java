@@ -103,7 +103,7 @@ public final class ModelTest {
             case "tone": return new int[] {from(0, plain.parts()), from(0, 2), from(0, 1)};
             case "mark": return new int[] {nextTime()};
             case "turn": return new int[] {from(-1, plain.turns())};
-            case "sheet": return new int[] {from(0, 1), from(0, 2), from(0, 3) == 0 ? from(0, 200) : 200, step()};
+            case "sheet": return sheet();
             case "drop": return new int[] {from(0, 1)};
             case "item": return item();
             case "cut": return new int[] {from(0, 1), from(0, Math.max(0, plain.turns() - 1)), from(1, from(0, 3) == 0 ? 40 : 4)};
@@ -153,9 +153,20 @@ public final class ModelTest {
         return from(0, 3) == 0 ? from(1, 1000) : from(1, 40);
     }
 
+    private int[] sheet() {
+        int sheet = from(0, 1);
+        return new int[] {sheet, lane(sheet), from(0, 3) == 0 ? from(0, 200) : 200, step()};
+    }
+
+    /** Mostly one LANE for each SHEET of a run, so that items are not mostly refused. */
+    private int lane(int sheet) {
+        return from(0, 9) == 0 ? from(0, 2) : (number + sheet) % 3;
+    }
+
     private int[] item() {
         int v = from(0, 2) == 0 ? from(-30000, 30000) : from(-130, 130);
-        return new int[] {from(0, 1), from(0, 2), from(0, 3) == 0 ? from(-1, 200) : from(0, 30), v};
+        int sheet = from(0, 1);
+        return new int[] {sheet, lane(sheet), from(0, 3) == 0 ? from(-1, 200) : from(0, 30), v};
     }
 
     /** A TONE of some PART, sometimes at the very edge of the slip, sometimes just beyond. */
@@ -165,9 +176,9 @@ public final class ModelTest {
         long above = plain.tone(part, i, 0);
         long below = plain.tone(part, i, 1);
         if (from(0, 2) == 0) {
-            int e = plain.slip(0) * (from(0, 1) == 0 ? 1 : -1) + (from(0, 3) == 0 ? from(-1, 1) : 0);
-            plain.slip(Math.abs(e) > 100 ? 100 : Math.abs(e));
-            real.slip(Math.abs(e) > 100 ? 100 : Math.abs(e));
+            int slip = plain.slip(0);
+            plain.slip(slip);
+            int e = slip * (from(0, 1) == 0 ? 1 : -1) + (from(0, 3) == 0 ? from(-1, 1) : 0);
             above *= 1000 + e;
             below *= 1000;
             long common = java.math.BigInteger.valueOf(above).gcd(java.math.BigInteger.valueOf(below)).longValue();
