@@ -11,6 +11,10 @@ public final class LinesTest {
         named();
         heapOfTheFewest();
         heapOfTheFirst();
+        heapSparesTheLeast();
+        heapOfOneForTwo();
+        heapOfTheLesser();
+        heapOfAFullMachine();
         heapAsThingsChange();
         strange();
         wideFractions();
@@ -156,6 +160,66 @@ public final class LinesTest {
         x.shaft(0, 10, 30);
         see(x, 1, 1, 2, 1, 3, 1, 1, 2, 3, 2, 1, 3, 2, 3);
         heapIs(x, 0, 1, 2);
+    }
+
+    private static void heapSparesTheLeast() {
+        // SHAFT 0 explains 1, 2, 3, but an inner 3/2, 3, 1 and an outer 2, 4 are needed and leave it nothing.
+        WornRings x = new WornRings();
+        x.shaft(0, 10, 20);
+        x.ring(1, 4, 1, 2);
+        x.ring(0, 8, 1, 2);
+        see(x, 1, 1, 2, 1, 3, 1, 3, 2, 4, 1);
+        DUE.is("SHAFT 0 can be NAMED", x.named(0), 1);
+        heapIs(x, 4, 7);
+    }
+
+    private static void heapOfOneForTwo() {
+        // Cages 1/8 and 1/4 come first, but one outer explains both.
+        WornRings x = new WornRings();
+        x.ring(0, 5, 3, 4);
+        x.ring(0, 5, 1, 2);
+        x.ring(0, 3, 11, 12);
+        see(x, 1, 8, 1, 4);
+        DUE.is("a cage can be NAMED", x.named(3), 1);
+        DUE.is("the other too", x.named(7), 1);
+        heapIs(x, 9);
+        see(x, 1, 1, 2, 1, 3, 1);
+        heapIs(x, 0, 9);
+    }
+
+    private static void heapOfTheLesser() {
+        // The cage 1/8 explains less than the outer 1/8, 1/4, but 1/2 takes the outer 1/4, 1/2 along.
+        WornRings x = new WornRings();
+        x.ring(0, 5, 3, 4);
+        x.ring(0, 3, 11, 12);
+        x.ring(0, 3, 5, 6);
+        see(x, 1, 8, 1, 4, 1, 2);
+        heapIs(x, 3, 9);
+    }
+
+    private static void heapOfAFullMachine() {
+        WornRings x = new WornRings();
+        for (int i = 0; i < 3; i++) {
+            x.shaft(0, 10, 10);
+        }
+        for (int i = 0; i < 8; i++) {
+            x.ring(0, 5, 10 * i + 1, 100);
+        }
+        DUE.is("all PARTS", x.parts(), 39);
+        // The cages are (99 - 10 i) / 200, the last balls 4959 / 14200 and twice that.
+        x.slip(0);
+        for (int i = 0; i < 8; i++) {
+            x.line(99 - 10 * i, 200);
+        }
+        heapIs(x, 9, 13, 17, 21, 25, 29, 33, 37);
+        x.unline();
+        see(x, 29, 200, 4959, 7100);
+        heapIs(x, 37);
+        x.slip(1);
+        DUE.is("one TONE of the balls", x.explains(38), 2);
+        x.line(3492, 10000);
+        DUE.is("and the other one", x.named(38), 1);
+        heapIs(x, 37, 38);
     }
 
     private static void heapAsThingsChange() {

@@ -10,6 +10,7 @@ public final class SoundsTest {
         drops();
         items();
         lowestBits();
+        fourSheets();
         cutRefusals();
         heardLongEnough();
         straightLines();
@@ -104,6 +105,21 @@ public final class SoundsTest {
         x.sheet(0, 2, 32, 1);
         x.cut(0, 0, 1);
         DUE.is("a new row begins with zeros", x.mean(5), 0);
+    }
+
+    private static void fourSheets() {
+        WornRings x = oneTurn(0);
+        for (int i = 0; i < 4; i++) {
+            x.sheet(i, i % 3, 32, 1);
+            DUE.is("item of sheet " + i, x.item(i, i % 3, 0, 10 + i), 1);
+        }
+        for (int i = 0; i < 4; i++) {
+            DUE.is("cut of sheet " + i, x.cut(i, 0, 1), 1);
+            DUE.is("its own first item", x.mean(0), 10 + i);
+        }
+        x.sheet(3, 0, 32, 1);
+        x.cut(3, 0, 1);
+        DUE.is("a new row's first item", x.mean(0), 0);
     }
 
     private static void cutRefusals() {
