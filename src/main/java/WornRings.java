@@ -168,8 +168,8 @@ public final class WornRings {
         if (!row.held) {
             return NULL;
         }
-        // Times rise, so a row that is heard at the last one of them is heard at all.
-        if (!marks.hasTurns(t, c) || marks.timeIn(t + c - 1, VALUES - 1) > row.lastHeard()) {
+        // TURNS go on to their ends: a row that ends ahead of the last one's is not heard so long.
+        if (!marks.hasTurns(t, c) || marks.endOf(t + c - 1) > row.lastHeard()) {
             return NOT;
         }
         average.take(row, marks, t, c);
@@ -497,6 +497,10 @@ public final class WornRings {
 
         boolean hasTurns(int first, int many) {
             return first >= 0 && many > 0 && first <= kept - 1 - many;
+        }
+
+        int endOf(int number) {
+            return hasTurns(number, 1) ? mended[number + 1] : LAST_TIME;
         }
 
         int timeIn(int number, int j) {

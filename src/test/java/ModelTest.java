@@ -155,7 +155,20 @@ public final class ModelTest {
 
     private int[] sheet() {
         int sheet = from(0, 1);
+        if (plain.turns() > 1 && from(0, 1) == 0) {
+            return endingNear(sheet, plain.turn(from(1, Math.min(plain.turns() - 1, 12))));
+        }
         return new int[] {sheet, lane(sheet), from(0, 3) == 0 ? from(0, 200) : 200, step()};
+    }
+
+    /** Heard to a TURN's end, or one time less or more, where cut is only just taken or refused. */
+    private int[] endingNear(int sheet, int time) {
+        int heard = Math.max(0, time + from(-1, 1));
+        int step = Math.max(1, (heard + 198) / 199);
+        while (step < heard && heard % step != 0) {
+            step++;
+        }
+        return new int[] {sheet, lane(sheet), heard / step + 1, Math.min(step, 1000)};
     }
 
     /** Mostly one LANE for each SHEET of a run, so that items are not mostly refused. */

@@ -263,18 +263,14 @@ public final class PlainModel {
             return -11;
         }
         List<Integer> row = mended();
-        if ((long) t + c > row.size() - 1) {
+        if ((long) t + c > row.size() - 1 || heard(sheet, row.get(t + c)) == null) {
             return -2;
         }
         List<Integer> means = new ArrayList<>();
         for (int j = 0; j < 32; j++) {
             long sum = 0;
             for (int k = t; k < t + c; k++) {
-                Integer v = heard(sheet, row.get(k) + (row.get(k + 1) - row.get(k)) * j / 32);
-                if (v == null) {
-                    return -2;
-                }
-                sum += v;
+                sum += heard(sheet, row.get(k) + (row.get(k + 1) - row.get(k)) * j / 32);
             }
             means.add((int) Math.floorDiv(sum, (long) c));
         }

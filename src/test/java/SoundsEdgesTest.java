@@ -28,10 +28,10 @@ public final class SoundsEdgesTest {
         return x;
     }
 
-    /** One TURN of 32 times and a SHEET of 32 items by step 1: THE MEAN is the row itself, once it is CUT. */
+    /** One TURN of 32 times and a SHEET by step 1 to its end: THE MEAN is the row but for item 32, once it is CUT. */
     private static WornRings oneTurn(int lane, int... items) {
         WornRings x = marked(0, 32);
-        x.sheet(0, lane, 32, 1);
+        x.sheet(0, lane, 33, 1);
         for (int i = 0; i < items.length; i++) {
             x.item(0, lane, i, items[i]);
         }
@@ -44,7 +44,7 @@ public final class SoundsEdgesTest {
         return x;
     }
 
-    /** The value of a SHEET at a time, by a TURN of length 1 that begins there. */
+    /** The value of a SHEET at a time, by a TURN of length 1 that begins there: NOT at the last item's time already. */
     private static long valueAt(WornRings x, int sheet, int time) {
         x.unmark();
         x.mark(time);
@@ -60,8 +60,8 @@ public final class SoundsEdgesTest {
         e.range("step", 1, 1000, BAD, step -> new WornRings().sheet(0, 0, 1, step));
         e.is("step 0 of no items", new WornRings().sheet(0, 0, 0, 0), BAD);
         WornRings x = withSheet(2, 200, 1000);
-        e.is("heard to the end", valueAt(x, 0, 199000), 0);
-        e.is("not beyond", valueAt(x, 0, 199001), NOT);
+        e.is("heard to the end", valueAt(x, 0, 198999), 0);
+        e.is("not beyond", valueAt(x, 0, 199000), NOT);
     }
 
     @Says(in = "Promise 12", words = "A SHEET holds a new row of a LANE, heard by steps (1 .. 1000): n.")
@@ -73,8 +73,8 @@ public final class SoundsEdgesTest {
         e.is("no bytes any more", x.item(0, 0, 0, 1), CAST);
         e.is("no item 3 any more", x.item(0, 2, 3, 1), INDEX);
         e.is("all items 0", valueAt(x, 0, 0), 0);
-        e.is("its own step", valueAt(x, 0, 4), 0);
-        e.is("not heard beyond", valueAt(x, 0, 5), NOT);
+        e.is("its own step", valueAt(x, 0, 3), 0);
+        e.is("not heard beyond", valueAt(x, 0, 4), NOT);
         e.is("a row of none", x.sheet(0, 2, 0, 2), 0);
         e.is("no item 0 any more", x.item(0, 2, 0, 1), INDEX);
         e.is("a long row again", x.sheet(0, 2, 200, 1), 200);
@@ -130,14 +130,15 @@ public final class SoundsEdgesTest {
         e.is("200", new WornRings().sheet(0, 1, 200, 1), 200);
         e.is("no first of none", withSheet(1, 0, 1).item(0, 1, 0, 5), INDEX);
         e.is("the last of 200", withSheet(1, 200, 1).item(0, 1, 199, 5), 1);
-        WornRings x = withSheet(1, 200, 1);
+        // The last one is told by the time halfway to it.
+        WornRings x = withSheet(1, 200, 2);
         e.is("the first at first", valueAt(x, 0, 0), 0);
-        e.is("the last at first", valueAt(x, 0, 199), 0);
-        x.item(0, 1, 199, 5);
-        e.is("the last then", valueAt(x, 0, 199), 5);
+        e.is("the last at first", valueAt(x, 0, 397), 0);
+        x.item(0, 1, 199, 10);
+        e.is("the last then", valueAt(x, 0, 397), 5);
         x.drop(0);
-        x.sheet(0, 1, 200, 1);
-        e.is("of a new row behind drop", valueAt(x, 0, 199), 0);
+        x.sheet(0, 1, 200, 2);
+        e.is("of a new row behind drop", valueAt(x, 0, 397), 0);
     }
 
     // ---- Promise 13: drop
@@ -239,7 +240,7 @@ public final class SoundsEdgesTest {
     @Says(in = "Terms", words = "heard at times 0, step, 2 step ..")
     static void heardByItsSteps(Edges e) {
         for (int step : new int[] {1, 7, 1000}) {
-            WornRings x = withSheet(2, 4, step);
+            WornRings x = withSheet(2, 5, step);
             for (int i = 0; i < 4; i++) {
                 x.item(0, 2, i, 10 + i);
             }
@@ -280,12 +281,11 @@ public final class SoundsEdgesTest {
     @Says(in = "Terms", words = "none beyond the last one")
     static void noneBeyondTheLast(Edges e) {
         e.is("none of no items", valueAt(withSheet(0, 0, 1000), 0, 0), NOT);
-        e.is("the only one", valueAt(withSheet(0, 1, 1000), 0, 0), 0);
-        e.is("behind the only one", valueAt(withSheet(0, 1, 1000), 0, 1), NOT);
-        e.is("the last of two", valueAt(withSheet(0, 2, 9), 0, 9), 0);
-        e.is("behind the last of two", valueAt(withSheet(0, 2, 9), 0, 10), NOT);
-        e.is("the last of 200", valueAt(withSheet(0, 200, 1), 0, 199), 0);
-        e.is("behind the last of 200", valueAt(withSheet(0, 200, 1), 0, 200), NOT);
+        e.is("behind the only one", valueAt(withSheet(0, 1, 1000), 0, 0), NOT);
+        e.is("ahead of the last of two", valueAt(withSheet(0, 2, 9), 0, 8), 0);
+        e.is("behind the last of two", valueAt(withSheet(0, 2, 9), 0, 9), NOT);
+        e.is("ahead of the last of 200", valueAt(withSheet(0, 200, 1), 0, 198), 0);
+        e.is("behind the last of 200", valueAt(withSheet(0, 200, 1), 0, 199), NOT);
         e.is("far behind", valueAt(withSheet(0, 200, 1000), 0, 999999), NOT);
     }
 
@@ -305,7 +305,7 @@ public final class SoundsEdgesTest {
         e.is("STRENGTH too", x.strength(0), 44 * 44);
         x.mark(0);
         x.mark(1);
-        x.sheet(3, 0, 1, 1);
+        x.sheet(3, 0, 2, 1);
         e.is("the next cut", x.cut(3, 0, 1), 1);
         e.is("takes its place", x.mean(0), 0);
     }
@@ -323,7 +323,7 @@ public final class SoundsEdgesTest {
         e.is("t -1, c 2", x.cut(0, -1, 2), BAD);
         e.range("sheet", 0, 3, BAD, sheet -> {
             WornRings y = marked(0, 1);
-            y.sheet(sheet, 0, 1, 1);
+            y.sheet(sheet, 0, 2, 1);
             return y.cut(sheet, 0, 1);
         });
     }
@@ -331,7 +331,7 @@ public final class SoundsEdgesTest {
     @Says(in = "Promise 15", words = "NULL")
     static void cutOfNothing(Edges e) {
         WornRings x = marked(0, 1);
-        x.sheet(1, 0, 1, 1);
+        x.sheet(1, 0, 2, 1);
         e.are("cut of SHEET", sheet -> x.cut(sheet, 0, 1), NULL, 1, NULL, NULL, BAD);
         x.drop(1);
         e.is("of what was dropped", x.cut(1, 0, 1), NULL);
@@ -363,25 +363,44 @@ public final class SoundsEdgesTest {
     @Says(in = "Promise 15", words = "or the SHEET is not heard so long.")
     static void notHeardSoLong(Edges e) {
         WornRings x = marked(0, 32, 64);
-        x.sheet(0, 0, 32, 1);
-        e.is("heard to 31, where the last value is", x.cut(0, 0, 1), 1);
+        x.sheet(0, 0, 33, 1);
+        e.is("heard to 32, the first TURN's end", x.cut(0, 0, 1), 1);
         e.is("not in the second TURN", x.cut(0, 1, 1), NOT);
         e.is("nor to the end of both", x.cut(0, 0, 2), NOT);
-        x.sheet(0, 0, 31, 1);
-        e.is("heard to 30", x.cut(0, 0, 1), NOT);
+        x.sheet(0, 0, 32, 1);
+        e.is("heard to 31, at all values, not to the end", x.cut(0, 0, 1), NOT);
+        x.sheet(0, 0, 65, 1);
+        e.is("heard to 64", x.cut(0, 0, 2), 2);
         x.sheet(0, 0, 64, 1);
-        e.is("heard to 63", x.cut(0, 0, 2), 2);
-        x.sheet(0, 0, 63, 1);
-        e.is("heard to 62", x.cut(0, 0, 2), NOT);
+        e.is("heard to 63", x.cut(0, 0, 2), NOT);
         e.is("the first TURN is", x.cut(0, 0, 1), 1);
+        x.sheet(0, 0, 2, 64);
+        e.is("two items, 64 apart", x.cut(0, 1, 1), 1);
         x.sheet(0, 0, 2, 63);
-        e.is("two items, 63 apart", x.cut(0, 1, 1), 1);
-        x.sheet(0, 0, 2, 62);
-        e.is("two items, 62 apart", x.cut(0, 1, 1), NOT);
+        e.is("two items, 63 apart", x.cut(0, 1, 1), NOT);
         x.sheet(0, 0, 0, 1);
         e.is("no items", x.cut(0, 0, 1), NOT);
         x.sheet(0, 0, 1, 1);
         e.is("one item", x.cut(0, 0, 1), NOT);
+    }
+
+    @Says(in = "Promise 15", words = "or the SHEET is not heard so long.")
+    static void heardToTheEndOfEveryTurn(Edges e) {
+        // Beginning, end, and how many items by step 1 it takes to be heard to that end.
+        int[][] turns = {{0, 1, 2}, {0, 2, 3}, {7, 8, 9}, {5, 70, 71}, {0, 198, 199}, {198, 199, 200}};
+        for (int[] turn : turns) {
+            WornRings x = marked(turn[0], turn[1]);
+            x.sheet(1, 2, turn[2], 1);
+            e.is("to " + turn[1] + ", " + turn[2] + " items", x.cut(1, 0, 1), 1);
+            x.sheet(1, 2, turn[2] - 1, 1);
+            e.is("to " + turn[1] + ", an item less", x.cut(1, 0, 1), NOT);
+        }
+        WornRings mended = marked(0, 10, 20, 50);
+        mended.sheet(0, 0, 4, 10);
+        e.is("to 30, a MENDED end", mended.cut(0, 0, 3), 3);
+        e.is("to 40", mended.cut(0, 0, 4), NOT);
+        mended.sheet(0, 0, 2, 29);
+        e.is("to 29", mended.cut(0, 2, 1), NOT);
     }
 
     @Says(in = "Terms", words = "CUT are TURNS t to t + c - 1 of a SHEET")
@@ -417,17 +436,14 @@ public final class SoundsEdgesTest {
     @Says(in = "Terms", words = "of each TURN 32 values, the j-th at its beginning and the TURN's length times j by 32 "
         + "(cut down).")
     static void valuesOfTheLongestTurn(Edges e) {
-        // Heard to 199000, the last of the 32 values is at 198998.
-        WornRings x = marked(0, 205418);
+        // Heard to 199000; the last of the 32 values is at 192781.
+        WornRings x = marked(0, 199000);
         x.sheet(0, 2, 200, 1000);
-        x.item(0, 2, 198, -1000);
-        x.item(0, 2, 199, 1000);
+        x.item(0, 2, 192, -1000);
+        x.item(0, 2, 193, 1000);
         e.is("cut", x.cut(0, 0, 1), 1);
-        e.is("the last value", x.mean(31), 996);
-        x = marked(0, 205420);
-        x.sheet(0, 2, 200, 1000);
-        e.is("cut, at its end", x.cut(0, 0, 1), 1);
-        x = marked(0, 205421);
+        e.is("the last value", x.mean(31), 562);
+        x = marked(0, 199001);
         x.sheet(0, 2, 200, 1000);
         e.is("cut, beyond", x.cut(0, 0, 1), NOT);
         x = marked(0, 1000000);

@@ -78,12 +78,12 @@ public final class SoundsTest {
         DUE.is("a row without items", x.item(1, 0, 0, 0), WornRings.INDEX);
     }
 
-    /** One turn of 32 times, so that THE MEAN is the row itself. */
+    /** One turn of 32 times, heard to its end: THE MEAN is the row itself, but for item 32. */
     private static WornRings oneTurn(int lane) {
         WornRings x = new WornRings();
         x.mark(0);
         x.mark(32);
-        x.sheet(0, lane, 32, 1);
+        x.sheet(0, lane, 33, 1);
         return x;
     }
 
@@ -102,7 +102,7 @@ public final class SoundsTest {
         }
         WornRings x = oneTurn(2);
         x.item(0, 2, 5, 77);
-        x.sheet(0, 2, 32, 1);
+        x.sheet(0, 2, 33, 1);
         x.cut(0, 0, 1);
         DUE.is("a new row begins with zeros", x.mean(5), 0);
     }
@@ -110,14 +110,14 @@ public final class SoundsTest {
     private static void fourSheets() {
         WornRings x = oneTurn(0);
         for (int i = 0; i < 4; i++) {
-            x.sheet(i, i % 3, 32, 1);
+            x.sheet(i, i % 3, 33, 1);
             DUE.is("item of sheet " + i, x.item(i, i % 3, 0, 10 + i), 1);
         }
         for (int i = 0; i < 4; i++) {
             DUE.is("cut of sheet " + i, x.cut(i, 0, 1), 1);
             DUE.is("its own first item", x.mean(0), 10 + i);
         }
-        x.sheet(3, 0, 32, 1);
+        x.sheet(3, 0, 33, 1);
         x.cut(3, 0, 1);
         DUE.is("a new row's first item", x.mean(0), 0);
     }
@@ -149,13 +149,13 @@ public final class SoundsTest {
 
     private static void heardLongEnough() {
         WornRings x = oneTurn(0);
-        DUE.is("the last value is at 31", x.cut(0, 0, 1), 1);
-        x.sheet(0, 0, 31, 1);
-        DUE.is("heard to 30", x.cut(0, 0, 1), WornRings.NOT);
+        DUE.is("heard to 32, the TURN's end", x.cut(0, 0, 1), 1);
+        x.sheet(0, 0, 32, 1);
+        DUE.is("heard to 31", x.cut(0, 0, 1), WornRings.NOT);
+        x.sheet(0, 0, 2, 32);
+        DUE.is("two items, 32 apart", x.cut(0, 0, 1), 1);
         x.sheet(0, 0, 2, 31);
-        DUE.is("two items, 31 apart", x.cut(0, 0, 1), 1);
-        x.sheet(0, 0, 2, 30);
-        DUE.is("two items, 30 apart", x.cut(0, 0, 1), WornRings.NOT);
+        DUE.is("two items, 31 apart", x.cut(0, 0, 1), WornRings.NOT);
         x.sheet(0, 0, 1, 1000);
         DUE.is("one item", x.cut(0, 0, 1), WornRings.NOT);
         x.sheet(0, 0, 0, 1000);
@@ -163,9 +163,11 @@ public final class SoundsTest {
         x.unmark();
         x.mark(0);
         x.mark(1);
-        DUE.is("no item at time 0 either", x.cut(0, 0, 1), WornRings.NOT);
+        DUE.is("no item for a TURN of 1 either", x.cut(0, 0, 1), WornRings.NOT);
         x.sheet(0, 0, 1, 1);
-        DUE.is("one item at time 0", x.cut(0, 0, 1), 1);
+        DUE.is("one item, at time 0 alone", x.cut(0, 0, 1), WornRings.NOT);
+        x.sheet(0, 0, 2, 1);
+        DUE.is("two items", x.cut(0, 0, 1), 1);
     }
 
     private static void straightLines() {
